@@ -30,13 +30,13 @@ public final class HillDance {
     private static final int SEARCH_MOST = 200;
     private static final int ROUND_MOST = 300;
 
-    private static final int AT_KIND = 0;
-    private static final int AT_VALLEY = 1;
-    private static final int AT_STEP = 2;
-    private static final int AT_TURN = 3;
-    private static final int AT_HEIGHT = 4;
-    private static final int AT_BOWED = 5;
-    private static final int AT_FACES = 6;
+    private static final int ITS_KIND = 0;
+    private static final int ITS_VALLEY = 1;
+    private static final int ITS_STEP = 2;
+    private static final int ITS_TURN = 3;
+    private static final int ITS_HEIGHT = 4;
+    private static final int ITS_BOWED = 5;
+    private static final int ITS_FACES = 6;
 
     private static final int IS_HILL = 0;
     private static final int IS_RIDGE = 1;
@@ -107,7 +107,7 @@ public final class HillDance {
     }
 
     public int change(int hill, int what, int v) {
-        if (shire.lacks(hill) || isOutside(what, AT_KIND, AT_BOWED)
+        if (shire.lacks(hill) || isOutside(what, ITS_KIND, ITS_BOWED)
                 || isOutside(v, leastOf(what), mostOf(what))) {
             return finding(BEYOND);
         }
@@ -237,15 +237,15 @@ public final class HillDance {
     // ---- how to dance
 
     public int stand(int hill, int other) {
-        return soonestWith(hill, other, AT_VALLEY);
+        return soonestWith(hill, other, ITS_VALLEY);
     }
 
     public int stepFor(int hill, int other) {
-        return soonestWith(hill, other, AT_STEP);
+        return soonestWith(hill, other, ITS_STEP);
     }
 
     public int turnFor(int hill, int other) {
-        return soonestWith(hill, other, AT_TURN);
+        return soonestWith(hill, other, ITS_TURN);
     }
 
     public int kindFor(int hill, int n) {
@@ -255,9 +255,9 @@ public final class HillDance {
         int best = 0;
         int most = -1;
         for (int kind = 0; kind < KINDS; kind++) {
-            tryWith(hill, AT_KIND, kind);
+            tryWith(hill, ITS_KIND, kind);
             trial.passAges(n);
-            int bowed = trial.trait(hill, AT_BOWED);
+            int bowed = trial.trait(hill, ITS_BOWED);
             if (bowed > most) {
                 most = bowed;
                 best = kind;
@@ -274,7 +274,7 @@ public final class HillDance {
             trial.become(shire);
             trial.rainfall = wet;
             trial.passAges(n);
-            if (trial.trait(hill, AT_HEIGHT) <= v) {
+            if (trial.trait(hill, ITS_HEIGHT) <= v) {
                 return wet;
             }
         }
@@ -335,7 +335,7 @@ public final class HillDance {
 
     public int fits(int s, int hill) {
         int wrong = wrongWithTold(s, hill);
-        return wrong >= 0 ? finding(wrong) : Integer.bitCount(fittingSet(s, hill, AT_STEP));
+        return wrong >= 0 ? finding(wrong) : Integer.bitCount(fittingSet(s, hill, ITS_STEP));
     }
 
     public int step(int s, int hill) {
@@ -343,7 +343,7 @@ public final class HillDance {
         if (wrong >= 0) {
             return finding(wrong);
         }
-        int fitting = fittingSet(s, hill, AT_STEP);
+        int fitting = fittingSet(s, hill, ITS_STEP);
         for (int v = -STEP_MOST; v <= STEP_MOST; v++) {
             if ((fitting >> (v + STEP_MOST) & 1) != 0) {
                 return v;
@@ -354,7 +354,7 @@ public final class HillDance {
 
     public int kinds(int s, int hill) {
         int wrong = wrongWithTold(s, hill);
-        return wrong >= 0 ? finding(wrong) : fittingSet(s, hill, AT_KIND);
+        return wrong >= 0 ? finding(wrong) : fittingSet(s, hill, ITS_KIND);
     }
 
     // ---- wet ages
@@ -447,7 +447,7 @@ public final class HillDance {
         if (shire.lacks(hill)) {
             return finding(MISSING);
         }
-        return isUnder(shire.trait(hill, AT_KIND), kind) ? hill : finding(KIND);
+        return isUnder(shire.trait(hill, ITS_KIND), kind) ? hill : finding(KIND);
     }
 
     public int sheet(int s, int bits, int n) {
@@ -504,7 +504,7 @@ public final class HillDance {
         int came = 0;
         while (came < sheet.length && !shire.lacks(came)
                 && !isOutside(sheet.numbers[came], 0, HEIGHT_MOST)) {
-            shire.setTrait(came, AT_HEIGHT, sheet.numbers[came]);
+            shire.setTrait(came, ITS_HEIGHT, sheet.numbers[came]);
             came++;
         }
         return came;
@@ -607,24 +607,24 @@ public final class HillDance {
     }
 
     private static boolean isForetold(int what) {
-        return what == AT_VALLEY || !isOutside(what, AT_TURN, AT_FACES);
+        return what == ITS_VALLEY || !isOutside(what, ITS_TURN, ITS_FACES);
     }
 
     private static int leastOf(int what) {
-        return what == AT_STEP ? -STEP_MOST : 0;
+        return what == ITS_STEP ? -STEP_MOST : 0;
     }
 
     private static int mostOf(int what) {
         switch (what) {
-            case AT_KIND:
+            case ITS_KIND:
                 return KINDS - 1;
-            case AT_VALLEY:
+            case ITS_VALLEY:
                 return VALLEYS - 1;
-            case AT_STEP:
+            case ITS_STEP:
                 return STEP_MOST;
-            case AT_TURN:
+            case ITS_TURN:
                 return TURNS_ROUND - 1;
-            case AT_HEIGHT:
+            case ITS_HEIGHT:
                 return HEIGHT_MOST;
             default:
                 return BOWED_MOST;
@@ -782,17 +782,17 @@ public final class HillDance {
 
         int trait(int h, int what) {
             switch (what) {
-                case AT_KIND:
+                case ITS_KIND:
                     return kinds[h];
-                case AT_VALLEY:
+                case ITS_VALLEY:
                     return valleys[h];
-                case AT_STEP:
+                case ITS_STEP:
                     return steps[h];
-                case AT_TURN:
+                case ITS_TURN:
                     return turns[h];
-                case AT_HEIGHT:
+                case ITS_HEIGHT:
                     return heights[h];
-                case AT_BOWED:
+                case ITS_BOWED:
                     return bows[h];
                 default:
                     return faced[h];
@@ -801,19 +801,19 @@ public final class HillDance {
 
         void setTrait(int h, int what, int v) {
             switch (what) {
-                case AT_KIND:
+                case ITS_KIND:
                     kinds[h] = v;
                     break;
-                case AT_VALLEY:
+                case ITS_VALLEY:
                     valleys[h] = v;
                     break;
-                case AT_STEP:
+                case ITS_STEP:
                     steps[h] = v;
                     break;
-                case AT_TURN:
+                case ITS_TURN:
                     turns[h] = v;
                     break;
-                case AT_HEIGHT:
+                case ITS_HEIGHT:
                     heights[h] = v;
                     break;
                 default:
@@ -1052,7 +1052,7 @@ public final class HillDance {
             rainfall = draw() % 10;
             int h = draw() % 8;
             if (!lacks(h)) {
-                setTrait(h, AT_TURN, (turns[h] + 1) % TURNS_ROUND);
+                setTrait(h, ITS_TURN, (turns[h] + 1) % TURNS_ROUND);
             }
             passAge();
         }
@@ -1157,10 +1157,10 @@ public final class HillDance {
             }
             int h = shire.raise(kind, 0);
             advance();
-            return readTrait(shire, h, AT_VALLEY, "at")
-                    && readTrait(shire, h, AT_STEP, "step")
-                    && readTrait(shire, h, AT_TURN, "turn")
-                    && readTrait(shire, h, AT_HEIGHT, "high");
+            return readTrait(shire, h, ITS_VALLEY, "at")
+                    && readTrait(shire, h, ITS_STEP, "step")
+                    && readTrait(shire, h, ITS_TURN, "turn")
+                    && readTrait(shire, h, ITS_HEIGHT, "high");
         }
 
         /** A trait that needn't be told: false only if it is told wrongly. */
@@ -1169,7 +1169,7 @@ public final class HillDance {
                 return true;
             }
             advance();
-            boolean isBack = what == AT_STEP && token == MINUS;
+            boolean isBack = what == ITS_STEP && token == MINUS;
             if (isBack) {
                 advance();
             }
