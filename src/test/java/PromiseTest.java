@@ -475,6 +475,9 @@ public final class PromiseTest {
         due("wallflowers(5)", x.wallflowers(5), 0);
         due("wallflowers(200)", x.wallflowers(200), 0);
         due("nothing changes", x.now(0), 0);
+        HillDance last = with(HILL, 4, STONE, 8, STONE, 8);
+        due("hill 0 alone is left", last.wallflowers(4), 1);
+        due("until it comes to the stones", last.wallflowers(5), 0);
         for (int n : new int[] {-1, 201, MIN, MAX}) {
             due("wallflowers(" + n + ")", x.wallflowers(n), BEYOND);
         }
@@ -855,7 +858,7 @@ public final class PromiseTest {
     private static void text() {
         promise = 32;
         textGood();
-        String[] faults = {"hillz", "hilla", "mill", "xain 1", "hill bt 3", "", "   ", "hills", "hil", "Hill", "at 3", "7", ";", "hill at 12", "hill at -1",
+        String[] faults = {"hill-hill", "hill step ;1", "hill step #1", "hill step ;", "rain 1-hill", "hillz", "hilla", "mill", "xain 1", "hill bt 3", "", "   ", "hills", "hil", "Hill", "at 3", "7", ";", "hill at 12", "hill at -1",
             "hill at", "hill at ", "hill at step", "hill 3", "hill step 6", "hill step -6", "hill step --1",
             "hill step", "hill step -", "hill step - ", "hill turn 4", "hill turn -1", "hill high 100",
             "hill high -1", "hill high 50 high 50", "hill turn 1 step 1", "hill step 1 at 1", "hill high 1 turn 1",
@@ -863,7 +866,7 @@ public final class PromiseTest {
             "rain 1 at 1", "rain step", "rain 1000", "hill at 1000", "hill at 99999999999999999999",
             "hill at 4294967296", "rain 3;hill at 3\t;", "hill\n", "hill at 3 #", "hillat 3", "hill a t 3",
             "hill at 3stepp 3", "hill at 1 1", "rain 5;rain 10", "twin step 0;stone high 1 0"};
-        int[] places = {0, 0, 0, 0, 5, 0, 3, 0, 0, 0, 0, 0, 0, 8, 8,
+        int[] places = {4, 10, 10, 10, 6, 0, 0, 0, 0, 5, 0, 3, 0, 0, 0, 0, 0, 0, 8, 8,
             7, 8, 8, 5, 10, 11, 11,
             9, 11, 12, 10, 10, 10,
             10, 13, 12, 12, 12,
@@ -1234,6 +1237,44 @@ public final class PromiseTest {
         due("undo takes none back", x.status(0), 7);
     }
 
+    /** With 8 hills each row is full: stones at valleys 0 to 7, but for a ridge at 7 that goes round in 6 ages. */
+    private static void fullShire() {
+        HillDance x = with(STONE, 0, STONE, 1, STONE, 2, STONE, 3, STONE, 4, STONE, 5, STONE, 6, RIDGE, 7);
+        promise = 6;
+        due("valley(7, 2)", x.valley(7, 2), 50);
+        promise = 8;
+        due("now(1)", x.now(1), 400);
+        due("now(2)", x.now(2), 0);
+        due("now(3)", x.now(3), 255);
+        promise = 9;
+        due("ahead(7, 1, 3)", x.ahead(7, 1, 3), 1);
+        promise = 11;
+        due("meet(7, 1)", x.meet(7, 1), 3);
+        promise = 12;
+        due("round()", x.round(), 6);
+        promise = 14;
+        due("wallflowers(3)", x.wallflowers(3), 255);
+        due("wallflowers(4)", x.wallflowers(4), 125);
+        promise = 15;
+        due("stand(7, 0)", x.stand(7, 0), 0);
+        promise = 20;
+        due("road(0, 8, 49)", x.road(0, 8, 49), 4);
+        promise = 21;
+        due("climb(0, 6)", x.climb(0, 6), 50);
+        promise = 27;
+        due("rains(1)", x.rains(1), 408);
+        due("hill 0 turned", x.of(0, 3), 1);
+        promise = 7;
+        due("go(2)", x.go(2), 2);
+        due("the ridge is at 1", x.of(7, 1), 1);
+        promise = 40;
+        due("image()", x.image(), 1);
+        x.go(1);
+        promise = 41;
+        due("undo()", x.undo(), 3);
+        due("the ridge is at 1 again", x.of(7, 1), 1);
+    }
+
     /** Shires, found by search, that just come to it in the last age that counts, or in the one behind it. */
     private static void lastAges() {
         promise = 10;
@@ -1298,6 +1339,7 @@ public final class PromiseTest {
         count();
         status();
         lastAges();
+        fullShire();
         System.out.println(wrong == 0 ? "all answers are as due" : wrong + " answers are not as due");
         if (wrong != 0) {
             System.exit(1);
