@@ -835,7 +835,7 @@ public final class ModelTest {
         }
         calls.add(name + Arrays.toString(args));
         long want = model.answer(name, args);
-        long got = HillDanceCalls.call(x, name, args);
+        long got = Checks.call(x, name, args);
         if (got != want) {
             isWrong = true;
             System.out.println(String.join(" ", calls) + " answered " + got + ", due is " + want);
@@ -963,23 +963,6 @@ public final class ModelTest {
         System.out.println(wrong == 0 ? "all answers are as due" : wrong + " runs went wrong");
         if (wrong != 0) {
             System.exit(1);
-        }
-    }
-}
-
-/** Calls of the class by their names. */
-final class HillDanceCalls {
-    private HillDanceCalls() {
-    }
-
-    static long call(HillDance x, String name, int[] args) {
-        Class<?>[] types = new Class<?>[args.length];
-        Arrays.fill(types, int.class);
-        Object[] boxed = Arrays.stream(args).boxed().toArray();
-        try {
-            return ((Number) HillDance.class.getMethod(name, types).invoke(x, boxed)).longValue();
-        } catch (ReflectiveOperationException e) {
-            throw new IllegalStateException(name, e);
         }
     }
 }
