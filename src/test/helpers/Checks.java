@@ -96,6 +96,13 @@ class Checks {
         }
     }
 
+    /** How many steps fit a number in a sheet of so many bits: 11 if it is read as any, none if as no valley. */
+    static int fitsWhenWritten(int bits, int v) {
+        HillDance x = with(STONE, 3);
+        fillSheet(x, 0, bits, v);
+        return x.fits(0, 0);
+    }
+
     /** A call by its name. */
     static long call(HillDance x, String name, int... args) {
         Class<?>[] types = new Class<?>[args.length];

@@ -110,6 +110,8 @@ public final class PromiseEdgeTest extends Edges {
         x.change(0, 1, 5);
         due("none any more", x.valley(11, 2), -1);
         due("no finding", x.status(-1), 0);
+        due("no hills", new HillDance().valley(0, 2), -1);
+        due("8 hills", stones(8).valley(7, 2), 50);
         says("BEYOND.");
         within("valley", row(3, 0), 0, 0, 11);
         within("valley", row(3, 0), 1, 0, 2);
@@ -395,6 +397,7 @@ public final class PromiseEdgeTest extends Edges {
         due("0 is 0 now", sinking(0).rainFor(0, 0, 0), 0);
         due("50 is 50 without rain", sinking(50).rainFor(0, 50, 60), 0);
         due("9 by 9", sinking(9).rainFor(0, 0, 1), 9);
+        due("5, 3, then 1 is less than 2", sinking(5).rainFor(0, 2, 2), 2);
         says("BEYOND.");
         within("rainFor", row(0, 50, 1), 0, 0, 2);
         within("rainFor", row(0, 50, 1), 1, 0, 99);
@@ -415,6 +418,7 @@ public final class PromiseEdgeTest extends Edges {
         due("around, back", x.road(1, 11, 49), 10);
         due("neighbours", x.road(11, 0, 0), 1);
         due("half around", x.road(3, 9, 0), 6);
+        due("8 hills", stones(8).road(0, 7, 49), 5);
         says("(0: from and to are one and the same).");
         for (int v = 0; v < 12; v++) {
             due("from " + v, x.road(v, v, 0), 0);
@@ -701,7 +705,8 @@ public final class PromiseEdgeTest extends Edges {
 
     private static void feed() {
         promise = 30;
-        says("THE TAPE gets the n lowest bytes of a number behind it, the highest of these first (n 1 to 4): how many it has.");
+        says("THE TAPE gets the n lowest bytes of a number behind it, the highest of these first (n 1 to 4): "
+            + "how many it has.");
         HillDance x = new HillDance();
         due("1 of 4", x.feed('x' << 24 | 'x' << 16 | 'x' << 8 | 'h', 1), 1);
         due("3 of 4", x.feed('x' << 24 | 'i' << 16 | 'l' << 8 | 'l', 3), 4);
@@ -900,12 +905,6 @@ public final class PromiseEdgeTest extends Edges {
         HillDance empty = new HillDance();
         empty.sheet(0, 32, 0);
         due("of an empty sheet", empty.write(0, 0, 0), BEYOND);
-    }
-
-    private static int fitsWhenWritten(int bits, int v) {
-        HillDance x = stones(1);
-        fillSheet(x, 0, bits, v);
-        return x.fits(0, 0);
     }
 
     private static void copy() {

@@ -752,7 +752,8 @@ public final class PromiseTest extends Checks {
     private static void text() {
         promise = 32;
         textGood();
-        String[] faults = {"hill-hill", "hill step ;1", "hill step #1", "hill step ;", "rain 1-hill", "hillz", "hilla", "mill", "xain 1", "hill bt 3", "", "   ", "hills", "hil", "Hill", "at 3", "7", ";", "hill at 12", "hill at -1",
+        String[] faults = {"hill-hill", "hill step ;1", "hill step #1", "hill step ;", "rain 1-hill", "hillz", "hilla",
+            "mill", "xain 1", "hill bt 3", "", "   ", "hills", "hil", "Hill", "at 3", "7", ";", "hill at 12", "hill at -1",
             "hill at", "hill at ", "hill at step", "hill 3", "hill step 6", "hill step -6", "hill step --1",
             "hill step", "hill step -", "hill step - ", "hill turn 4", "hill turn -1", "hill high 100",
             "hill high -1", "hill high 50 high 50", "hill turn 1 step 1", "hill step 1 at 1", "hill high 1 turn 1",
@@ -760,7 +761,8 @@ public final class PromiseTest extends Checks {
             "rain 1 at 1", "rain step", "rain 1000", "hill at 1000", "hill at 99999999999999999999",
             "hill at 4294967296", "rain 3;hill at 3\t;", "hill\n", "hill at 3 #", "hillat 3", "hill a t 3",
             "hill at 3stepp 3", "hill at 1 1", "rain 5;rain 10", "twin step 0;stone high 1 0"};
-        int[] places = {4, 10, 10, 10, 6, 0, 0, 0, 0, 5, 0, 3, 0, 0, 0, 0, 0, 0, 8, 8,
+        int[] places = {4, 10, 10, 10, 6, 0, 0,
+            0, 0, 5, 0, 3, 0, 0, 0, 0, 0, 0, 8, 8,
             7, 8, 8, 5, 10, 11, 11,
             9, 11, 12, 10, 10, 10,
             10, 13, 12, 12, 12,
@@ -922,12 +924,6 @@ public final class PromiseTest extends Checks {
         due("65535 in 16 bits is -1", fitsWhenWritten(16, 65535), 11);
         due("255 in 16 bits isn't", fitsWhenWritten(16, 255), 0);
         due("65535 in 32 bits isn't", fitsWhenWritten(32, 65535), 0);
-    }
-
-    private static int fitsWhenWritten(int bits, int v) {
-        HillDance x = with(STONE, 3);
-        fillSheet(x, 0, bits, v);
-        return x.fits(0, 0);
     }
 
     private static void copy() {

@@ -559,6 +559,8 @@ public final class TermEdgeTest extends Edges {
         fault("hill;7", 5);
         says("another WORD");
         fault("at 7", 0);
+        fault("mill", 0);
+        fault("hill bt 7", 5);
         fault("hill step turn", 10);
         fault("rain hill", 5);
         fault("hill;at 7", 5);
